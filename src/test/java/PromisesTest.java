@@ -296,6 +296,7 @@ public final class PromisesTest {
         SmellBorders x = valley("..../....;1");
         for (int kind = 0; kind < 5; kind++) {
             x.source(kind, 0, kind, 5);
+            due("kind " + kind, x.about(kind, 0), kind);
             due("kind " + kind + " smells", x.about(kind, 7), 1);
         }
         x.hour();
@@ -509,10 +510,12 @@ public final class PromisesTest {
         due("water: strength", x.weakest(1, 0, 0), 4);
         due("water: from the open cell", x.weakest(1, 0, 1), 0);
         due("a wall is nobody's for ever", x.weakest(2, 0, 0), NONE);
+        x.source(PLAIN, 1, 3, 8);
+        due("8 is beaten by 9", x.weakest(3, 0, 0), 9);
         x.source(PLAIN, 1, 3, 9);
         due("9 can't be beaten", x.weakest(3, 0, 0), NONE);
         due("9 can't be beaten, no cell", x.weakest(3, 0, 1), NONE);
-        for (int i = 1; i < 6; i++) {
+        for (int i = 2; i < 6; i++) {
             x.source(PLAIN, 2, 0, 1);
         }
         due("one more than six, as it would be", x.weakest(0, 0, 0), 2);
@@ -545,6 +548,7 @@ public final class PromisesTest {
         due("done so far", x.count(14), 8);
         wallsByAnother();
         wallsInWater();
+        wallsInTheCorner();
         wallsTwentyTimes();
     }
 
@@ -577,6 +581,17 @@ public final class PromisesTest {
         x.source(PLAIN, 0, 0, 9);
         due("water may become a wall", x.walls(3, 0, 1), 1 << 1);
         due("a wall is nobody's", x.walls(5, 0, 0), 0);
+    }
+
+    private static void wallsInTheCorner() {
+        SmellBorders x = valley("..##/..##;1");
+        x.source(PLAIN, 0, 1, 9);
+        due("the first cell, too", x.walls(4, 0, 1), 1 << 0 | 1 << 5);
+        SmellBorders held = valley("..../####;1");
+        held.source(PLAIN, 1, 1, 1);
+        held.source(PLAIN, 0, 0, 9);
+        due("another parish's source is in the way of walls", held.walls(2, 0, 0), NONE);
+        due("a wall where no source is", held.walls(3, 0, 1), 1 << 2);
     }
 
     private static void wallsTwentyTimes() {
@@ -682,6 +697,10 @@ public final class PromisesTest {
             refused("unknown(" + bad + ")", x, () -> x.unknown(bad), OUTSIDE);
         }
         due("done so far", x.count(15), 11);
+        SmellBorders corner = valley(".w##/.###;1");
+        corner.nose(1, 0);
+        // On 0 above 3: 6; on 4, by cell 0, above 4: 5.
+        due("by the first cell", corner.unknown(0), 11);
         askedThirtyTimes();
     }
 
@@ -715,6 +734,10 @@ public final class PromisesTest {
         x.frost(true);
         due("of like ones the least, a wall or not", x.sniff(), 0);
         due("done so far", x.count(15), 4);
+        SmellBorders open = valley("..../....;1");
+        open.frost(true);
+        due("all 216 are left wherever", open.sniff(), 0);
+        due("all cells are alike by turns, of like ones the least", valley("#..#/####;3").sniff(), 1);
     }
 
     private static void promise24Days() {

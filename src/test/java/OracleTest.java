@@ -628,7 +628,8 @@ public final class OracleTest {
         SmellBorders x = new SmellBorders();
         Model model = new Model();
         int made = 0;
-        while (made < CALLS) {
+        // A round makes up to 14 calls, and a digest comes last: what an object answers beyond its 512th call is free.
+        while (made < CALLS - 14) {
             if (made == 20 && run % 4 > 0 || made > 20 && random.nextInt(150) == 0) {
                 String text = valleyText(random);
                 if (!alike(run, x, model, 1, new int[4])) return false;

@@ -1,53 +1,12 @@
 import java.util.function.LongSupplier;
 
 /** For each promise of the document: ordinary inputs, the edges it names, wrong inputs. Answers are worked out by hand. */
-public final class PromisesTest {
-    private static final int NONE = -1, UNKNOWN = -101, OUTSIDE = -102, STATE = -103, FULL = -104;
-    private static final int MIN = Integer.MIN_VALUE, MAX = Integer.MAX_VALUE;
-    private static final int PLAIN = 0, CHEESE = 1, JASMINE = 2, TANNERY = 3, VAT = 4;
-    private static final int RIGHT = 1, LEFT = 2, DOWN = 3, UP = 4;
-
-    private static int wrong = 0;
-    private static int checks = 0;
-
-    private static void due(String what, long got, long want) {
-        checks++;
-        if (got != want) {
-            wrong++;
-            System.out.println(what + " answered " + got + ", due is " + want);
-        }
-    }
-
+public final class PromisesTest extends Sentences {
     /** A refusal must change nothing: the digest before and after is the same. */
     private static void refused(String what, SmellBorders x, LongSupplier call, long want) {
         long before = x.digest();
         due(what, call.getAsLong(), want);
         due(what + " changes nothing", x.digest(), before);
-    }
-
-    private static SmellBorders write(SmellBorders x, String text) {
-        for (int i = 0; i < text.length(); i++) {
-            x.letter(text.charAt(i));
-        }
-        return x;
-    }
-
-    private static SmellBorders valley(String text) {
-        SmellBorders x = write(new SmellBorders(), text);
-        if (x.valley() < 0) throw new IllegalArgumentException(text);
-        return x;
-    }
-
-    private static void smells(String what, SmellBorders x, int source, int... want) {
-        for (int cell = 0; cell < want.length; cell++) {
-            due(what + ", about(" + source + ", " + (10 + cell) + ")", x.about(source, 10 + cell), want[cell]);
-        }
-    }
-
-    private static void whose(String what, SmellBorders x, int... want) {
-        for (int cell = 0; cell < want.length; cell++) {
-            due(what + ", cell(" + cell + ", 1)", x.cell(cell, 1), want[cell]);
-        }
     }
 
     private static void promise1NewObject() {
@@ -960,7 +919,6 @@ public final class PromisesTest {
         promise26Restore();
         promise27Count();
         promise28Digest();
-        System.out.println(checks + " checks, " + wrong + " wrong");
-        if (wrong != 0) System.exit(1);
+        end();
     }
 }

@@ -9,6 +9,8 @@ import java.nio.file.Path;
 import java.util.Arrays;
 import java.util.Set;
 import java.util.TreeSet;
+import java.util.regex.Matcher;
+import java.util.regex.Pattern;
 
 /** The document's public face, and those rules of ../shared/LANGUAGE.md that can be seen from outside. */
 public final class LanguageTest {
@@ -23,6 +25,9 @@ public final class LanguageTest {
         "NONE=-1", "UNKNOWN=-101", "OUTSIDE=-102", "STATE=-103", "FULL=-104"));
     private static final String[] FORBIDDEN = {"throw", "throws", "try", "catch", "finally", "synchronized", "assert",
         "import", "package", "equals", "hashCode", "toString", "Thread", "Random", "native", "volatile"};
+
+    private static final Set<String> LIBRARY = new TreeSet<>(Arrays.asList(
+        "Math.max(", "Math.min(", "Integer.bitCount(", "System.arraycopy("));
 
     private static int wrong = 0;
 
@@ -107,6 +112,37 @@ public final class LanguageTest {
         must("no lambda, no method reference", !code.contains("->") && !code.contains("::"));
         must("no static block", !code.matches("(?s).*\\bstatic\\s*\\{.*"));
         must("twelve classes at most", code.split("\\bclass\\b", -1).length - 1 <= 12);
+        library(code);
+        lengths(text);
+    }
+
+    /** All names of classes in the code are its own, or of the few calls of the library that rule 4 lists and it needs. */
+    private static void library(String code) {
+        Set<String> own = new TreeSet<>();
+        Matcher declared = Pattern.compile("\\bclass (\\w+)").matcher(code);
+        while (declared.find()) {
+            own.add(declared.group(1));
+        }
+        Matcher named = Pattern.compile("\\b[A-Z]\\w*[a-z]\\w*(\\.\\w+\\()?").matcher(code);
+        while (named.find()) {
+            String name = named.group();
+            boolean isOwn = own.contains(name.replaceAll("\\..*", ""));
+            must(name + " is its own or listed", isOwn || LIBRARY.contains(name));
+        }
+    }
+
+    /** A method of the class stands four blanks in, one of a class inside it eight; it ends at the brace below its head. */
+    private static void lengths(String text) {
+        String[] lines = text.split("\n");
+        for (int i = 0; i < lines.length; i++) {
+            if (!lines[i].matches("( {4}| {8})\\w[^=;]*\\) \\{")) continue;
+            String end = lines[i].replaceAll("\\w.*", "") + "}";
+            int to = i;
+            while (to < lines.length && !lines[to].equals(end)) {
+                to++;
+            }
+            must("sixty lines at most:" + lines[i], to - i < 60);
+        }
     }
 
     /** The dearest calls again and again: none of them may make objects that grow with the calls. */

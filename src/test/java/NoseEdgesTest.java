@@ -273,6 +273,9 @@ public final class NoseEdgesTest extends Sentences {
     private static void noneToSniff() {
         says(23, "NONE: there are no such SOURCES.");
         due("no open cell", valley("ww##/####;1").sniff(), NONE);
+        SmellBorders so = valley(".###/####;1");
+        so.nose(0, NONE);
+        due("the noses are so as it is known, but by no one more", so.sniff(), NONE);
         SmellBorders x = valley("..../....;1");
         x.nose(0, 0);
         x.nose(0, 1);

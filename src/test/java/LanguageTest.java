@@ -6,8 +6,12 @@ import java.lang.reflect.Method;
 import java.lang.reflect.Modifier;
 import java.nio.file.Files;
 import java.nio.file.Path;
+import java.util.ArrayList;
 import java.util.Arrays;
+import java.util.List;
+import java.util.Map;
 import java.util.Set;
+import java.util.TreeMap;
 import java.util.TreeSet;
 import java.util.regex.Matcher;
 import java.util.regex.Pattern;
@@ -113,7 +117,7 @@ public final class LanguageTest {
         must("no static block", !code.matches("(?s).*\\bstatic\\s*\\{.*"));
         must("twelve classes at most", code.split("\\bclass\\b", -1).length - 1 <= 12);
         library(code);
-        lengths(text);
+        depths(lengths(text.replaceAll("(?m)//.*$", "")));
     }
 
     /** All names of classes in the code are its own, or of the few calls of the library that rule 4 lists and it needs. */
@@ -132,7 +136,8 @@ public final class LanguageTest {
     }
 
     /** A method of the class stands four blanks in, one of a class inside it eight; it ends at the brace below its head. */
-    private static void lengths(String text) {
+    private static Map<String, List<String>> lengths(String text) {
+        Map<String, List<String>> calls = new TreeMap<>();
         String[] lines = text.split("\n");
         for (int i = 0; i < lines.length; i++) {
             if (!lines[i].matches("( {4}| {8})\\w[^=;]*\\) \\{")) continue;
@@ -142,6 +147,44 @@ public final class LanguageTest {
                 to++;
             }
             must("sixty lines at most:" + lines[i], to - i < 60);
+            String name = lines[i].replaceAll("\\(.*", "").replaceAll(".*\\W", "");
+            calls.computeIfAbsent(name, made -> new ArrayList<>())
+                .addAll(called(String.join("\n", Arrays.copyOfRange(lines, i + 1, Math.min(to, lines.length)))));
+        }
+        return calls;
+    }
+
+    /** The names in front of brackets; one that is no method of the file, as the library's or super, is one deep. */
+    private static List<String> called(String body) {
+        List<String> names = new ArrayList<>();
+        Matcher call = Pattern.compile("\\b(\\w+)\\(").matcher(body);
+        while (call.find()) {
+            names.add(call.group(1));
+        }
+        return names;
+    }
+
+    /** Methods of one name count as one, so this may tell too much but never too little. */
+    private static int depth(String name, Map<String, List<String>> calls, List<String> open) {
+        if (open.contains(name)) {
+            must("no recursion: " + open + " " + name, false);
+            return 0;
+        }
+        int below = 0;
+        open.add(name);
+        for (String callee : calls.getOrDefault(name, List.of())) {
+            below = Math.max(below, depth(callee, calls, open));
+        }
+        open.remove(name);
+        return below + 1;
+    }
+
+    private static void depths(Map<String, List<String>> calls) {
+        for (Method m : SmellBorders.class.getDeclaredMethods()) {
+            if (!Modifier.isPublic(m.getModifiers())) continue;
+            must("the body of " + m.getName() + " was seen", calls.containsKey(m.getName()));
+            int deep = depth(m.getName(), calls, new ArrayList<>());
+            must(m.getName() + " goes " + deep + " deep, eight at most", deep <= 8);
         }
     }
 
